@@ -335,13 +335,14 @@ public final class NameNoon {
     }
 
     public int byTurns(int n, int m) {
-        if (now.papers == 0) {
+        int last = now.papers - 1;
+        if (!now.has(last)) {
             return STATE;
         }
         if (!within(n, 0, TURNS) || !within(m, 1, TURN_NOONS)) {
             return BAD;
         }
-        return foresight.outcome(n, m);
+        return Foresight.bestOf(foresight, 0, n, m, now.places[0], now.places[last]);
     }
 
     public int who(int paper, int which, int row, int i, int n) {
@@ -594,7 +595,8 @@ public final class NameNoon {
 
         boolean read() {
             at = 0;
-            draft.empty();
+            // no noon ever comes to the draft, so but for its papers nothing of it can be left over
+            draft.papers = 0;
             if (!readLaw() || !readPaper()) {
                 return false;
             }
@@ -713,18 +715,6 @@ public final class NameNoon {
         private final int[] lows = new int[PAPERS];
         private final int[] longs = new int[PAPERS];
 
-        void empty() {
-            papers = 0;
-            clock = 0;
-            drift = 0;
-            rest = 0;
-            noon = 0;
-            eaten = 0;
-            hidden = 0;
-            latestBitten = NONE;
-            latestLost = 0;
-        }
-
         void take(Square from) {
             papers = from.papers;
             clock = from.clock;
@@ -733,8 +723,6 @@ public final class NameNoon {
             noon = from.noon;
             eaten = from.eaten;
             hidden = from.hidden;
-            latestBitten = from.latestBitten;
-            latestLost = from.latestLost;
             System.arraycopy(from.kinds, 0, kinds, 0, PAPERS);
             System.arraycopy(from.places, 0, places, 0, PAPERS);
             System.arraycopy(from.lows, 0, lows, 0, PAPERS);
@@ -780,18 +768,18 @@ public final class NameNoon {
                 return NONE;
             }
             int best = NONE;
+            int bestNear = 0;
             for (int p = 0; p < papers; p++) {
-                if (longs[p] > 0 && !isHidden(p) && (best < 0 || isNearer(p, best))) {
+                if (longs[p] == 0 || isHidden(p)) {
+                    continue;
+                }
+                int near = nearOf(p);
+                if (best < 0 || near < bestNear || near == bestNear && longs[p] > longs[best]) {
                     best = p;
+                    bestNear = near;
                 }
             }
             return best;
-        }
-
-        private boolean isNearer(int one, int other) {
-            int nearOne = nearOf(one);
-            int nearOther = nearOf(other);
-            return nearOne < nearOther || nearOne == nearOther && longs[one] > longs[other];
         }
 
         void passNoon() {
@@ -800,9 +788,7 @@ public final class NameNoon {
             if (rest > 0) {
                 rest--;
             } else if (has(latestBitten)) {
-                latestLost = bite(latestBitten);
-                eaten += latestLost;
-                rest = Math.max(0, latestLost - 5);
+                bite(latestBitten);
             }
             clock = Math.floorMod(clock + drift - 1, PLACES);
             noon++;
@@ -814,27 +800,28 @@ public final class NameNoon {
             }
         }
 
-        private int bite(int paper) {
-            int letters = longs[paper];
-            int half = (letters + 1) / 2;
-            switch (kinds[paper]) {
-                case LATIN:
-                    if (letters % 2 != 0) {
-                        places[paper] = Math.min(places[paper] + 1, PLACES - 1);
-                        return 0;
-                    }
-                    return loseLetters(paper, letters);
-                case BORROWED: return loseLetters(lenderOf(paper), letters);
-                case DOUBLE: return loseLetters(paper, half);
-                case STREET: return loseLetters(paper, Math.min(half, 1));
-                default: return loseLetters(paper, letters);
+        private void bite(int paper) {
+            int loser = kinds[paper] == BORROWED ? lenderOf(paper) : paper;
+            if (isSpatOut(paper)) {
+                places[paper] = Math.min(places[paper] + 1, PLACES - 1);
+            } else {
+                latestLost = Math.min(biteOf(paper), longs[loser]);
             }
+            longs[loser] -= latestLost;
+            eaten += latestLost;
+            rest = Math.max(0, latestLost - 5);
         }
 
-        private int loseLetters(int paper, int n) {
-            int lost = Math.min(n, longs[paper]);
-            longs[paper] -= lost;
-            return lost;
+        private boolean isSpatOut(int paper) {
+            return kinds[paper] == LATIN && longs[paper] % 2 != 0;
+        }
+
+        private int biteOf(int paper) {
+            switch (kinds[paper]) {
+                case DOUBLE: return (longs[paper] + 1) / 2;
+                case STREET: return 1;
+                default: return longs[paper];
+            }
         }
 
         private int lenderOf(int paper) {
@@ -1034,14 +1021,6 @@ public final class NameNoon {
             return n * now.longs[paper] / all + (ahead < over ? 1 : 0);
         }
 
-        int outcome(int n, int m) {
-            int last = now.papers - 1;
-            if (!now.has(last)) {
-                return 0;
-            }
-            return bestOf(this, 0, n, m, now.places[0], now.places[last]);
-        }
-
         private static int bestOf(Foresight told, int turn, int n, int m, int first, int last) {
             if (turn >= n || turn >= TURNS) {
                 return told.gain(m, first, last);
@@ -1107,18 +1086,24 @@ public final class NameNoon {
 
         long casesKept(int paper, int n, int p) {
             int shown = now.allBits() & ~now.hidden;
-            long cases = 0;
+            long kept = 0;
             for (int rained = 0; rained <= now.allBits(); rained++) {
                 if ((rained & ~shown) == 0) {
-                    then.take(now);
-                    then.hidden |= rained;
-                    then.passNoons(n);
-                    if (then.longs[paper] > 0) {
-                        cases += power(p, Integer.bitCount(rained)) * power(10 - p, Integer.bitCount(shown & ~rained));
+                    long cases = power(p, Integer.bitCount(rained)) * power(10 - p, Integer.bitCount(shown & ~rained));
+                    // where there are no such cases the noons need not be tried
+                    if (cases > 0 && keepsName(paper, n, rained)) {
+                        kept += cases;
                     }
                 }
             }
-            return cases;
+            return kept;
+        }
+
+        private boolean keepsName(int paper, int n, int rained) {
+            then.take(now);
+            then.hidden |= rained;
+            then.passNoons(n);
+            return then.longs[paper] > 0;
         }
 
         long casesOfRain() {
