@@ -2,59 +2,22 @@ import java.util.Arrays;
 
 /** The promises one by one: answers worked out by hand from the document. */
 public final class PromiseTest {
-    private static final long NONE = -1000000, BAD = -1000001, STATE = -1000002, FULL = -1000003;
-    private static final long NULL = -1000011, PLACE = -1000012, KIND = -1000013, SIZE = -1000014, STORE = -1000015;
-    private static final int MIN = Integer.MIN_VALUE, MAX = Integer.MAX_VALUE;
+    private static final long NONE = Driver.NONE, BAD = Driver.BAD, STATE = Driver.STATE, FULL = Driver.FULL;
+    private static final long NULL = Driver.NULL, PLACE = Driver.PLACE, KIND = Driver.KIND, SIZE = Driver.SIZE,
+        STORE = Driver.STORE;
+    private static final int MIN = Driver.MIN, MAX = Driver.MAX;
     private static final String ALL_KINDS = "c0,0;p3,0,5;l4,0,6;b5,0,7;d6,0,8;s7,0,9;";
 
     private static final Check check = new Check();
-    private NameNoon x;
-
     private PromiseTest() {
-        x = new NameNoon();
     }
 
-    private PromiseTest(String text) {
-        this();
-        tell(text);
+    private static Driver driver() {
+        return new Driver(check);
     }
 
-    private void due(long due, String name, int... a) {
-        check.due(name + Arrays.toString(a), Calls.call(x, name, a), due);
-    }
-
-    private long tell(String text) {
-        for (char c : text.toCharArray()) x.feed(c);
-        return x.square();
-    }
-
-    /** A row of bytes with these items. */
-    private void line(int row, int... items) {
-        x.row(row, 0, items.length);
-        for (int i = 0; i < items.length; i++) x.set(row, i, items[i]);
-    }
-
-    /** All that can be read of the object, but for status(). */
-    private String look() {
-        StringBuilder s = new StringBuilder();
-        for (int what = 0; what < 8; what++) s.append(x.count(what)).append(' ');
-        for (int what = 0; what < 7; what++) s.append(x.stand(what)).append(' ');
-        for (int p = 0; p < 6; p++) {
-            s.append(x.kind(p)).append(':');
-            for (int what = 0; what < 5; what++) s.append(x.paper(p, what)).append(' ');
-        }
-        for (int i = 0; i < 16; i++) s.append(x.trace(i)).append(' ');
-        return s.append(x.fault()).toString();
-    }
-
-    private void changesNothing(long due, String name, int... a) {
-        String before = look();
-        due(due, name, a);
-        check.same("all behind " + name + Arrays.toString(a), look(), before);
-    }
-
-    private void eachBad(String name, int[]... calls) {
-        for (int[] a : calls) changesNothing(BAD, name, a);
+    private static Driver driver(String text) {
+        return new Driver(check, text);
     }
 
     private static int[] of(int... a) {
@@ -63,7 +26,7 @@ public final class PromiseTest {
 
     private static void newObject() {
         check.promise("1 a new object");
-        PromiseTest t = new PromiseTest();
+        Driver t = driver();
         for (int what = 0; what < 8; what++) t.due(0, "count", what);
         t.due(0, "status");
         t.due(0, "fault");
@@ -87,7 +50,7 @@ public final class PromiseTest {
 
     private static void rows() {
         check.promise("2 row");
-        PromiseTest t = new PromiseTest();
+        Driver t = driver();
         t.due(0, "row", 0, 0, 0);
         t.due(40, "row", 7, 2, 40);
         t.due(2, "count", 0);
@@ -101,7 +64,7 @@ public final class PromiseTest {
         t.due(1, "set", 7, 4, 1);
 
         check.promise("2 row: items are 0 at first");
-        t = new PromiseTest("c0,1;p0,0,9;p1,0,9;");
+        t = driver("c0,1;p0,0,9;p1,0,9;");
         t.line(0, 5, 5);
         t.due(2, "row", 0, 0, 2);
         t.due(1022, "who", 0, 2, 0, 0, 1);
@@ -134,7 +97,7 @@ public final class PromiseTest {
 
     private static void copies() {
         check.promise("4 copy");
-        PromiseTest t = new PromiseTest("c0,1;s0,0,9;s1,0,9;");
+        Driver t = driver("c0,1;s0,0,9;s1,0,9;");
         t.line(0, 1, 0, 0, 99, 7);
         t.line(1, 5, 5, 5, 5, 0);
         t.due(2, "copy", 0, 1, 1, 2, 2);
@@ -167,7 +130,7 @@ public final class PromiseTest {
 
     private static void tape() {
         check.promise("6 feed");
-        PromiseTest t = new PromiseTest();
+        Driver t = driver();
         for (int i = 1; i <= 90; i++) t.due(i, "feed", i % 2 == 0 ? 0 : 255);
         t.changesNothing(FULL, "feed", 0);
         t.eachBad("feed", of(-1), of(256), of(MIN), of(MAX));
@@ -179,7 +142,7 @@ public final class PromiseTest {
     }
 
     private static void faultIs(String text, int place, int fault) {
-        PromiseTest t = new PromiseTest("c3,1;d2,0,4;p2,0,4;");
+        Driver t = driver("c3,1;d2,0,4;p2,0,4;");
         t.x.noons(2);
         for (char c : text.toCharArray()) t.x.feed(c);
         String before = t.look().replaceFirst(text.length() + " ", "0 ");
@@ -232,7 +195,7 @@ public final class PromiseTest {
         faultIs(six + (char) 200, 47, 1);
 
         check.promise("7 square");
-        PromiseTest t = new PromiseTest(six + "p");
+        Driver t = driver(six + "p");
         t.due(3, "fault");
         check.due("six papers", t.tell(six), 6);
         t.due(3, "fault");
@@ -243,7 +206,7 @@ public final class PromiseTest {
         t.due(7, "paper", 0, 1);
         t.due(9, "paper", 0, 2);
         check.promise("7 square: all anew");
-        t = new PromiseTest("c0,2;p0,0,9;p9,0,9;");
+        t = driver("c0,2;p0,0,9;p9,0,9;");
         t.x.hide(1);
         t.x.noons(1);
         t.due(4, "stand", 3);
@@ -259,7 +222,7 @@ public final class PromiseTest {
 
     private static void undoes() {
         check.promise("9 undo");
-        PromiseTest t = new PromiseTest("c4,2;l4,0,3;b4,1,9;p9,9,9;");
+        Driver t = driver("c4,2;l4,0,3;b4,1,9;p9,9,9;");
         String[] seen = new String[40];
         int acts = 0;
         int[][] calls = {of(0, 1), of(1, 0, 7), of(2, 0, 9), of(3, 1), of(3, 1), of(4, 9), of(0, 1), of(0, 1), of(3, 2),
@@ -277,20 +240,13 @@ public final class PromiseTest {
             acts--;
             t.due(left, "undo");
             t.due(left, "count", 6);
-            check.same("what undo leaves", uncounted(t.look()), uncounted(seen[acts]));
+            check.same("what undo leaves", Driver.uncounted(t.look()), Driver.uncounted(seen[acts]));
         }
         t.due(STATE, "undo");
     }
 
-    /** Without how many acts can be undone, which need not be as it was. */
-    private static String uncounted(String look) {
-        String[] words = look.split(" ");
-        words[6] = "";
-        return String.join(" ", words);
-    }
-
     private static void bites(String text, int[] lost, int... letters) {
-        PromiseTest t = new PromiseTest(text);
+        Driver t = driver(text);
         int sum = 0;
         for (int n : lost) {
             t.due(n, "noons", 1);
@@ -309,7 +265,7 @@ public final class PromiseTest {
         check.promise("10 noons: Latin ones");
         bites("c0,1;l0,0,8;", of(8, 0, 0, 0, 0), 0);
         bites("c0,1;l0,0,3;", of(0, 0, 0), 3);
-        PromiseTest t = new PromiseTest("c7,1;l8,0,1;");
+        Driver t = driver("c7,1;l8,0,1;");
         t.due(0, "noons", 1);
         t.due(9, "paper", 0, 0);
         t.due(0, "noons", 1);
@@ -320,7 +276,7 @@ public final class PromiseTest {
         bites("c9,1;p0,0,4;b9,0,2;l0,0,9;", of(2), 4, 2, 7);
         bites("c9,1;p0,0,4;p0,0,4;b9,0,2;", of(2, 2, 2), 0, 2, 2);
         bites("c9,1;b9,9,9;b9,0,2;b9,9,9;", of(2, 2, 2, 2, 1, 2), 7, 2, 0);
-        t = new PromiseTest("c0,1;b0,0,8;p5,0,5;p6,0,9;");
+        t = driver("c0,1;b0,0,8;p5,0,5;p6,0,9;");
         t.x.hide(1);
         t.due(5, "noons", 1);
         t.due(0, "paper", 1, 2);
@@ -341,22 +297,22 @@ public final class PromiseTest {
 
     private static void noonsAndClock() {
         check.promise("10 noons: the clock goes on");
-        PromiseTest t = new PromiseTest("c1,0;p1,0,7;");
+        Driver t = driver("c1,0;p1,0,7;");
         for (int place : of(0, 9, 8, 7)) {
             t.x.noons(1);
             t.due(place, "stand", 1);
         }
-        t = new PromiseTest("c8,2;p1,0,7;");
+        t = driver("c8,2;p1,0,7;");
         for (int place : of(9, 0, 1, 2)) {
             t.x.noons(1);
             t.due(place, "stand", 1);
         }
-        t = new PromiseTest("c8,1;p1,0,7;");
+        t = driver("c8,1;p1,0,7;");
         t.x.noons(24);
         t.due(8, "stand", 1);
 
         check.promise("10 noons: nothing is bitten");
-        t = new PromiseTest("c8,2;p1,0,7;");
+        t = driver("c8,2;p1,0,7;");
         t.x.hide(0);
         t.due(0, "noons", 3);
         t.due(1, "stand", 1);
@@ -368,7 +324,7 @@ public final class PromiseTest {
         t.due(7, "count", 3);
 
         check.promise("10 noons: refusals");
-        t = new PromiseTest("c1,0;s1,0,7;");
+        t = driver("c1,0;s1,0,7;");
         t.eachBad("noons", of(0), of(25), of(-1), of(MIN), of(MAX));
         for (int i = 0; i < 41; i++) t.x.noons(24);
         t.due(984, "count", 2);
@@ -383,7 +339,7 @@ public final class PromiseTest {
 
     private static void doings() {
         check.promise("11 move");
-        PromiseTest t = new PromiseTest("c5,1;p3,2,1;l7,0,2;");
+        Driver t = driver("c5,1;p3,2,1;l7,0,2;");
         t.due(3, "move", 0, 9);
         t.due(9, "paper", 0, 0);
         t.due(6, "paper", 0, 3);
@@ -416,7 +372,7 @@ public final class PromiseTest {
         t.eachBad("clock", of(-1), of(10), of(MIN));
 
         check.promise("15 paper");
-        t = new PromiseTest("c4,2;p3,1,6;l5,0,7;b9,9,5;");
+        t = driver("c4,2;p3,1,6;l5,0,7;b9,9,5;");
         t.due(2, "paper", 0, 3);
         t.due(1, "paper", 1, 3);
         t.due(14, "paper", 2, 3);
@@ -424,7 +380,7 @@ public final class PromiseTest {
         t.due(9, "paper", 2, 1);
         t.eachBad("paper", of(3, 0), of(-1, 0), of(0, 5), of(0, -1), of(6, 0), of(MAX, MIN));
         check.promise("16 stand");
-        t = new PromiseTest("c4,2;p3,1,6;p5,0,9;b9,9,5;");
+        t = driver("c4,2;p3,1,6;p5,0,9;b9,9,5;");
         for (int[] a : new int[][] {of(0, 3), of(1, 4), of(2, 2), of(3, 0), of(4, 0), of(5, 0), of(6, 1)}) {
             t.due(a[1], "stand", a[0]);
         }
@@ -443,7 +399,7 @@ public final class PromiseTest {
 
     private static void foretold() {
         check.promise("17 ahead");
-        PromiseTest t = new PromiseTest("c5,1;l5,0,3;d9,0,9;");
+        Driver t = driver("c5,1;l5,0,3;d9,0,9;");
         t.due(5, "ahead", 0, 0, 1);
         t.due(7, "ahead", 0, 2, 1);
         t.due(8, "ahead", 0, 3, 1);
@@ -455,7 +411,7 @@ public final class PromiseTest {
         t.due(2, "ahead", 1, 60, 0);
         t.eachBad("ahead", of(0, -1, 0), of(0, 61, 0), of(0, 0, 2), of(0, 0, -1), of(2, 0, 0), of(-1, 0, 0));
         check.promise("18 bitten");
-        t = new PromiseTest("c0,1;b0,0,7;p9,0,9;");
+        t = driver("c0,1;b0,0,7;p9,0,9;");
         int[] who = {0, -1, -1, 0, 0, -1, -1, -1};
         int[] lost = {7, 0, 0, 2, 7, 0, 0, 0};
         for (int n = 1; n <= who.length; n++) {
@@ -465,7 +421,7 @@ public final class PromiseTest {
         t.due(NONE, "bitten", 60, 0);
         t.eachBad("bitten", of(0, 0), of(61, 0), of(1, 2), of(1, -1), of(MIN, 0));
         check.promise("19 left");
-        t = new PromiseTest("c0,0;p9,0,7;s9,1,3;");
+        t = driver("c0,0;p9,0,7;s9,1,3;");
         int[][] left = {of(10, 0, 0), of(3, 1, 9), of(3, 1, 8), of(3, 1, 7), of(2, 1, 6), of(1, 1, 5), of(0, 3, 4)};
         for (int n = 0; n < left.length; n++) for (int what = 0; what < 3; what++) t.due(left[n][what], "left", n, what);
         t.due(0, "left", 60, 2);
@@ -475,7 +431,7 @@ public final class PromiseTest {
 
     private static void whenAndOver() {
         check.promise("20 when");
-        PromiseTest t = new PromiseTest("c0,1;d0,0,3;p9,0,4;l9,9,3;");
+        Driver t = driver("c0,1;d0,0,3;p9,0,4;l9,9,3;");
         t.due(1, "when", 0, 0);
         t.due(2, "when", 0, 1);
         t.due(3, "when", 1, 0);
@@ -490,7 +446,7 @@ public final class PromiseTest {
         t.due(0, "when", 0, 1);
         t.eachBad("when", of(3, 0), of(-1, 0), of(0, 2), of(0, -1));
         check.promise("20 when: 60 is the last");
-        t = new PromiseTest("c0,1;s0,0,9;s0,1,9;s0,2,9;s0,3,9;s0,4,9;s0,5,9;");
+        t = driver("c0,1;s0,0,9;s0,1,9;s0,2,9;s0,3,9;s0,4,9;s0,5,9;");
         t.due(46, "when", 5, 0);
         t.due(54, "when", 5, 1);
         check.promise("21 over");
@@ -500,12 +456,12 @@ public final class PromiseTest {
         t.due(54, "over");
         t.x.hide(0);
         t.due(NONE, "over");
-        t = new PromiseTest("c0,1;p0,0,9;p0,1,9;p0,2,9;p0,3,9;p0,4,9;p0,5,9;");
+        t = driver("c0,1;p0,0,9;p0,1,9;p0,2,9;p0,3,9;p0,4,9;p0,5,9;");
         t.due(26, "over");
         t.x.noons(24);
         t.x.noons(2);
         t.due(0, "over");
-        check.due("one that is never eaten", new PromiseTest("c0,1;l0,0,3;").x.over(), NONE);
+        check.due("one that is never eaten", driver("c0,1;l0,0,3;").x.over(), NONE);
         edgeOfForesight();
     }
 
@@ -513,35 +469,35 @@ public final class PromiseTest {
         check.promise("20 when, 21 over: 60, and not 61");
         String[] over = {"c3,2;l4,2,9;s2,5,1;b0,7,2;b9,3,7;s8,0,5;l4,1,1;", "c5,2;b2,5,1;s9,2,2;s3,3,8;b5,7,7;l8,2,9;s4,2,2;"};
         String[] bitten = {"c4,2;s8,9,4;s4,6,1;l2,0,9;b4,7,7;b1,7,2;b9,1,1;", "c1,2;s0,7,9;b6,8,4;l9,3,2;s0,8,1;l7,2,1;s1,7,8;"};
-        PromiseTest t = new PromiseTest(over[0]);
+        Driver t = driver(over[0]);
         t.due(60, "over");
         t.x.noons(1);
         t.due(59, "over");
-        t = new PromiseTest(over[1]);
+        t = driver(over[1]);
         t.due(NONE, "over");
         t.x.noons(1);
         t.due(60, "over");
-        t = new PromiseTest(bitten[0]);
+        t = driver(bitten[0]);
         t.due(60, "when", 3, 0);
         t.due(3, "bitten", 60, 0);
-        t = new PromiseTest(bitten[1]);
+        t = driver(bitten[1]);
         t.due(NONE, "when", 3, 0);
         t.x.noons(1);
         t.due(60, "when", 3, 0);
-        t = new PromiseTest("c1,2;s1,2,2;l7,1,1;b1,7,1;l3,0,9;l3,9,1;");
+        t = driver("c1,2;s1,2,2;l7,1,1;b1,7,1;l3,0,9;l3,9,1;");
         t.due(NONE, "when", 4, 1);
         t.x.noons(1);
         t.due(60, "when", 4, 1);
-        t = new PromiseTest("c0,1;b0,0,1;s9,9,9;p9,9,9;p9,9,9;p9,9,9;p9,9,9;");
+        t = driver("c0,1;b0,0,1;s9,9,9;p9,9,9;p9,9,9;p9,9,9;p9,9,9;");
         t.due(45, "when", 5, 1);
         t.due(46, "over");
-        t = new PromiseTest("c0,1;d0,0,9;s1,1,9;s2,2,9;s3,3,9;s4,4,9;s5,5,9;");
+        t = driver("c0,1;d0,0,9;s1,1,9;s2,2,9;s3,3,9;s4,4,9;s5,5,9;");
         t.due(49, "over");
     }
 
     private static void sought() {
         check.promise("22 spot");
-        PromiseTest t = new PromiseTest("c0,1;p0,0,4;p5,0,4;");
+        Driver t = driver("c0,1;p0,0,4;p5,0,4;");
         t.due(6, "spot", 0, 1, 0);
         t.due(4, "spot", 0, 1, 1);
         t.due(0, "spot", 0, 2, 0);
@@ -556,7 +512,7 @@ public final class PromiseTest {
         t.due(4, "spot", 1, 60, 1);
         t.eachBad("spot", of(0, 0, 0), of(0, 61, 0), of(0, 1, 2), of(0, 1, -1), of(2, 1, 0), of(-1, 1, 0));
         check.promise("23 decoy");
-        t = new PromiseTest("c0,1;p1,0,5;p1,0,5;");
+        t = driver("c0,1;p1,0,5;p1,0,5;");
         int[] least = {6, 6, 7, 8, 9};
         for (int n = 1; n <= 5; n++) t.due(least[n - 1], "decoy", 1, 0, n);
         t.due(NONE, "decoy", 1, 0, 6);
@@ -569,7 +525,7 @@ public final class PromiseTest {
         t.x.noons(1);
         t.due(1, "decoy", 1, 0, 40);
         check.promise("24 hides");
-        t = new PromiseTest("c0,1;p0,0,4;s0,1,9;p9,9,3;");
+        t = driver("c0,1;p0,0,4;s0,1,9;p9,9,3;");
         t.x.hide(2);
         int[][] hides = {of(1, 1, 1), of(9, 1, 1), of(10, 2, 5), of(40, 2, 5)};
         for (int[] h : hides) {
@@ -582,17 +538,17 @@ public final class PromiseTest {
         t.due(0, "hides", 9, 0);
         t.due(4, "hides", 10, 1);
         check.promise("24 hides: hidden ones may lose");
-        t = new PromiseTest("c0,1;b0,0,2;p0,0,9;");
+        t = driver("c0,1;b0,0,2;p0,0,9;");
         t.due(2, "hides", 5, 1);
         t.due(3, "hides", 6, 1);
         check.promise("24 hides: the least of several");
-        check.due("hides", new PromiseTest("c0,1;b0,0,1;l5,0,3;").x.hides(1, 1), 1);
-        check.due("hides", new PromiseTest("c0,1;l5,0,3;b0,0,1;").x.hides(1, 1), 1);
+        check.due("hides", driver("c0,1;b0,0,1;l5,0,3;").x.hides(1, 1), 1);
+        check.due("hides", driver("c0,1;l5,0,3;b0,0,1;").x.hides(1, 1), 1);
     }
 
     private static void setsAndShares() {
         check.promise("25 sets");
-        PromiseTest t = new PromiseTest("c0,1;p9,0,3;p9,0,4;p9,0,7;p0,0,5;");
+        Driver t = driver("c0,1;p9,0,3;p9,0,4;p9,0,7;p0,0,5;");
         t.x.noons(1);
         int[][] sets = {of(0, 1, 0, 0), of(1, 0, 0, 0), of(5, 0, 0, 0), of(7, 2, 0, 7), of(10, 1, 5, 5), of(11, 1, 6, 6),
             of(14, 1, 7, 7), of(19, 0, 0, 0), of(54, 0, 0, 0)};
@@ -603,9 +559,9 @@ public final class PromiseTest {
         t.due(5, "sets", 14, 1);
         t.due(15, "sets", 14, 2);
         t.eachBad("sets", of(-1, 0), of(55, 0), of(0, 3), of(0, -1), of(MAX, 0));
-        check.due("all of the longest", new PromiseTest("c0,0;p0,0,9;p0,0,9;p0,0,9;p0,0,9;p0,0,9;p0,0,9;").x.sets(54, 1), 63);
+        check.due("all of the longest", driver("c0,0;p0,0,9;p0,0,9;p0,0,9;p0,0,9;p0,0,9;p0,0,9;").x.sets(54, 1), 63);
         check.promise("26 share");
-        t = new PromiseTest("c0,1;p9,0,3;p9,0,4;p9,0,7;");
+        t = driver("c0,1;p9,0,3;p9,0,4;p9,0,7;");
         int[][] shares = {of(0, 0, 0, 0), of(1, 1, 0, 0), of(2, 1, 0, 1), of(10, 3, 2, 5), of(14, 3, 4, 7),
             of(999, 215, 285, 499)};
         for (int[] s : shares) for (int p = 0; p < 3; p++) t.due(s[p + 1], "share", p, s[0]);
@@ -615,14 +571,14 @@ public final class PromiseTest {
         t.x.noons(4);
         for (int p = 0; p < 3; p++) t.due(0, "share", p, 999);
         t.eachBad("share", of(0, -1), of(0, 1000), of(3, 0), of(-1, 0));
-        t = new PromiseTest("c0,1;p0,0,5;s9,0,1;s9,0,1;s9,0,1;");
+        t = driver("c0,1;p0,0,5;s9,0,1;s9,0,1;s9,0,1;");
         t.x.noons(1);
         for (int[] s : new int[][] {of(0, 0), of(1, 2), of(2, 2), of(3, 1)}) t.due(s[1], "share", s[0], 5);
     }
 
     private static void turns() {
         check.promise("27 byTurns");
-        PromiseTest t = new PromiseTest("c0,1;p0,0,4;p1,0,5;");
+        Driver t = driver("c0,1;p0,0,4;p1,0,5;");
         int[] comes = {-5, 4, -5, 4, -5};
         for (int n = 0; n <= 4; n++) {
             t.due(comes[n], "byTurns", n, 1);
@@ -632,23 +588,23 @@ public final class PromiseTest {
         t.eachBad("byTurns", of(-1, 1), of(5, 1), of(0, 0), of(0, 21), of(MAX, MIN));
         check.promise("27 byTurns: not beyond 9, and the last one is the last");
         for (String edge : new String[] {"c9,1;p0,0,4;s5,0,9;p0,1,5;", "c0,1;p9,0,4;s5,0,9;p9,1,5;"}) {
-            t = new PromiseTest(edge);
+            t = driver(edge);
             t.x.hide(1);
             for (int n = 0; n <= 4; n++) t.due(-5, "byTurns", n, 1);
         }
         for (String edge : new String[] {"c9,1;p0,1,5;s5,0,9;p0,0,4;", "c0,1;p9,1,5;s5,0,9;p9,0,4;"}) {
-            t = new PromiseTest(edge);
+            t = driver(edge);
             t.x.hide(1);
             for (int n = 0; n <= 4; n++) t.due(5, "byTurns", n, 1);
         }
-        t = new PromiseTest("c9,1;p1,0,4;p1,0,5;");
+        t = driver("c9,1;p1,0,4;p1,0,5;");
         for (int n = 0; n <= 4; n++) t.due(4, "byTurns", n, 1);
-        check.due("one paper", new PromiseTest("c0,1;p0,0,4;").x.byTurns(4, 20), 0);
+        check.due("one paper", driver("c0,1;p0,0,4;").x.byTurns(4, 20), 0);
     }
 
     private static void whos() {
         check.promise("28 who");
-        PromiseTest t = new PromiseTest("c5,1;p5,0,5;p9,0,3;");
+        Driver t = driver("c5,1;p5,0,5;p9,0,3;");
         t.line(0, 0, 1, 99);
         int[] two = {2, 1022, 62, 255};
         for (int which = 0; which < 4; which++) t.due(two[which], "who", 0, which, 0, 0, 2);
@@ -677,7 +633,7 @@ public final class PromiseTest {
 
     private static void rains() {
         check.promise("29 rain");
-        PromiseTest t = new PromiseTest("c0,1;p0,0,4;p0,1,4;");
+        Driver t = driver("c0,1;p0,0,4;p0,1,4;");
         int[][] rains = {of(1, 1, 3, 79, 100), of(1, 2, 3, 3, 10), of(1, 2, 0, 0, 1), of(1, 60, 10, 1, 1), of(0, 0, 5, 1, 1),
             of(0, 1, 5, 1, 2), of(1, 1, 5, 3, 4), of(0, 1, 0, 0, 1)};
         for (int[] r : rains) {
@@ -697,7 +653,7 @@ public final class PromiseTest {
         t.due(5, "rain", 1, 60, 2, 1);
         t.eachBad("rain", of(2, 0, 0, 0), of(-1, 0, 0, 0), of(0, -1, 0, 0), of(0, 61, 0, 0), of(0, 0, -1, 0), of(0, 0, 11, 0),
             of(0, 0, 0, 2), of(0, 0, 0, -1));
-        t = new PromiseTest("c0,1;p0,0,1;p0,1,1;p0,2,1;p0,3,1;p0,4,1;p0,5,1;");
+        t = driver("c0,1;p0,0,1;p0,1,1;p0,2,1;p0,3,1;p0,4,1;p0,5,1;");
         t.due(3, "rain", 5, 6, 3, 0);
         t.due(10, "rain", 5, 6, 3, 1);
         t.due(300000 + 7 * 7 * 7 * 7 * 7 * 7, "rain", 5, 5, 3, 0);
@@ -706,7 +662,7 @@ public final class PromiseTest {
 
     private static void draws() {
         check.promise("30 drawn");
-        PromiseTest t = new PromiseTest("c0,1;p0,0,4;p9,0,4;");
+        Driver t = driver("c0,1;p0,0,4;p9,0,4;");
         int[] eaten = {0, 4, 8, 14, 14, 17};
         int[] letters = {8, 4, 0, 0, 3, 0};
         for (int n = 0; n <= 5; n++) {
@@ -717,7 +673,7 @@ public final class PromiseTest {
         t.due(0, "drawn", 0, 1, 0);
         t.eachBad("drawn", of(-1, 1, 0), of(61, 1, 0), of(1, 0, 0), of(1, 1000000, 0), of(1, 1, 2), of(1, 1, -1));
         check.promise("30 drawn: moved");
-        t = new PromiseTest("c0,1;p3,0,4;p9,0,5;");
+        t = driver("c0,1;p3,0,4;p9,0,5;");
         t.due(5, "drawn", 1, 3, 0);
         t.due(4, "drawn", 1, 3, 1);
         t.due(9, "paper", 1, 0);
@@ -725,7 +681,7 @@ public final class PromiseTest {
 
     private static void images() {
         check.promise("31 image, 32 restore");
-        PromiseTest t = new PromiseTest();
+        Driver t = driver();
         t.eachBad("image", of(-1), of(2));
         t.eachBad("restore", of(-1), of(2));
         t.changesNothing(STATE, "image", 0);
@@ -743,21 +699,21 @@ public final class PromiseTest {
         String second = t.look();
         t.tell("c0,0;l0,0,1;");
         t.due(1, "restore", 0);
-        check.same("the first image", uncounted(t.look()), uncounted(first));
+        check.same("the first image", Driver.uncounted(t.look()), Driver.uncounted(first));
         t.due(0, "count", 6);
         t.due(STATE, "undo");
         t.x.write(0, 7);
         t.due(1, "count", 6);
         t.due(1, "restore", 1);
-        check.same("the second image", uncounted(t.look()), uncounted(second));
+        check.same("the second image", Driver.uncounted(t.look()), Driver.uncounted(second));
         t.due(0, "count", 6);
         t.due(1, "restore", 0);
-        check.same("the first image again", uncounted(t.look()), uncounted(first));
+        check.same("the first image again", Driver.uncounted(t.look()), Driver.uncounted(first));
     }
 
     private static void asked() {
         check.promise("33 kind");
-        PromiseTest t = new PromiseTest(ALL_KINDS);
+        Driver t = driver(ALL_KINDS);
         for (int p = 0; p < 5; p++) t.due(p + 1, "kind", p);
         t.eachBad("kind", of(-1), of(5), of(6), of(MIN));
         check.promise("34 as");
@@ -789,7 +745,7 @@ public final class PromiseTest {
 
     private static void counted() {
         check.promise("37 count");
-        PromiseTest t = new PromiseTest("c4,2;p4,0,9;s4,4,8;p9,9,2;");
+        Driver t = driver("c4,2;p4,0,9;s4,4,8;p9,9,2;");
         t.x.row(3, 0, 0);
         t.x.row(4, 0, 1);
         t.x.feed('c');
