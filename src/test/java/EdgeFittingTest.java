@@ -170,6 +170,40 @@ public final class EdgeFittingTest {
             }
         }
 
+        edges.terms("the PAPER that is the rest of X by how many there are, if it is NAMELESS, is written anew: LONG the rest of X "
+            + "by 9 and 1;");
+        t = edges.driver("c0,1;p0,0,1;");
+        t.x.noons(1);
+        t.x.hide(0);
+        for (int seed = 1; seed <= 18; seed++) t.due(16807 * seed % 9 + 1, "drawn", 1, seed, 1);
+        t.due(1, "drawn", 1, 9, 1);
+        t.due(9, "drawn", 1, 2, 1);
+        t = edges.driver("c0,1;p0,0,1;p0,0,2;p0,0,3;p0,0,4;p0,0,5;p0,0,6;");
+        t.x.hide(0);
+        t.x.hide(5);
+        // 16807 times 6 leaves 0, times 5 leaves 5: the first and the last have letters, and none is written
+        for (int seed : of(5, 6)) t.due(16, "drawn", 1, seed, 1);
+        t.x.noons(4);
+        for (int seed = 1; seed <= 6; seed++) {
+            int paper = 16807 * seed % 6;
+            boolean kept = paper == 0 || paper == 5;
+            t.due(7, "drawn", 1, seed, 1);
+            t.due(kept ? 0 : 16807 * seed % 9 + 1, "drawn", 1, seed, 0);
+        }
+
+        edges.terms("else, if X by 3 leaves 0, it is moved to the PLACE that is X by 8 (cut) by 10 left over; then the NOON:");
+        boolean[] seen = new boolean[10];
+        for (int seed = 2; seed <= 200; seed += 2) {
+            int x = 16807 * seed;
+            int place = x % 3 == 0 ? x / 8 % 10 : 9;
+            seen[place] = true;
+            for (int other = 0; other <= 9; other++) {
+                t = edges.driver("c0,1;p9,0,4;p" + other + ",0,3;");
+                t.due(place <= other ? 4 : 3, "drawn", 1, seed, 0);
+            }
+        }
+        for (int place = 0; place <= 9; place++) edges.check.holds("a draw moves it to " + place, seen[place]);
+
         edges.terms("EATEN in them; letters of all at last.");
         t = edges.driver("c0,1;p0,0,5;p9,9,4;");
         t.x.noons(1);
@@ -199,6 +233,47 @@ public final class EdgeFittingTest {
         for (int i = 0; i < 17; i++) t.due(i < numbers.length ? numbers[i] : NONE, "trace", i);
     }
 
+    private static long mark(char sort, int number, int place, int letters) {
+        switch (sort) {
+            case 'p': return number + place;
+            case 'l': return 2 * (number + place);
+            case 'b': return number + place - 1000;
+            default: return number - size(sort, number, place, letters);
+        }
+    }
+
+    private static long size(char sort, int number, int place, int letters) {
+        switch (sort) {
+            case 'l': return -(letters + mark(sort, number, place, letters));
+            case 'd': return letters - 100;
+            case 's': return 2 * (letters - 100);
+            default: return letters + mark(sort, number, place, letters);
+        }
+    }
+
+    private static void bodiesOf(Driver t, char sort, int number) {
+        int place = t.x.paper(number, 0), letters = t.x.paper(number, 2);
+        t.due(size(sort, number, place, letters), "ask", number, 0);
+        t.due(mark(sort, number, place, letters), "ask", number, 1);
+    }
+
+    private static void bodies() {
+        edges.terms("11 of PLAIN ones: what 10 gives, and MARK. 12 of LATIN ones: 0 less what 11 gives. 13 of DOUBLE ones: what 10 "
+            + "gives, less 100. 14 of those of STREETS: what 13 gives, twice. 1 MARK: 20 lent to all PAPERS: the number. 21 of "
+            + "PLAIN ones: what 20 gives, and PLACE. 22 of BORROWED ones: what 21 gives, less 1000. 23 of DOUBLE ones: what 20 "
+            + "gives, less SIZE. 24 of LATIN ones: what 21 gives, twice.");
+        for (char sort : "plbds".toCharArray()) {
+            for (int place : of(0, 9)) {
+                Driver t = edges.driver("c0,1;" + (sort + "" + place + ",0,1;" + sort + place + ",0,9;").repeat(3));
+                for (int number = 0; number < 6; number++) bodiesOf(t, sort, number);
+                t = edges.driver("c0,1;" + (sort + "" + place + ",0,2;").repeat(6));
+                t.x.noons(24);
+                t.due(63, "stand", 4);
+                for (int number = 0; number < 6; number++) bodiesOf(t, sort, number);
+            }
+        }
+    }
+
     private static void asks() {
         edges.terms("each of which leaves its number in THE TRACE as it begins (the first 16)");
         Driver t = edges.driver(KINDS);
@@ -219,6 +294,8 @@ public final class EdgeFittingTest {
         traceIs(t, 22, 21, 20);
         t.due(186, "ask", 4, 1);
         traceIs(t, 23, 20, 14, 13, 10);
+
+        bodies();
 
         edges.terms("0 SIZE: 10 lent to all PAPERS: LONG.");
         t = edges.driver("c0,1;d0,0,9;l9,9,9;s9,0,1;p0,9,1;");

@@ -357,7 +357,7 @@ public final class EdgeForetoldTest {
             edges.driver("c9,1;p0,0,4;l5,9,9;p1,0,3;").due(comesThen[n], "byTurns", n, 1);
         }
 
-        edges.terms("letters of PAPER 0 less letters of the last one;");
+        edges.terms("then m NOONS: letters of PAPER 0 less letters of the last one;");
         for (int n = 0; n <= 4; n++) for (int m : of(1, 20)) edges.driver("c0,1;p5,0,4;").due(0, "byTurns", n, m);
         t = edges.driver("c0,1;p0,0,9;s9,9,9;l9,9,9;");
         t.due(-9, "byTurns", 0, 1);
@@ -365,6 +365,14 @@ public final class EdgeForetoldTest {
         t.x.hide(0);
         t.x.hide(2);
         t.due(0, "byTurns", 4, 20);
+
+        edges.terms("the debtor wants it great, the creditor little: what comes of it.");
+        t = edges.driver("c0,1;p5,0,9;p5,0,9;");
+        // each flees one place above the other, who follows: of two that are as near and as long the first is bitten
+        int[] wanted = {-9, 9, -9, 9, -9};
+        for (int n = 0; n <= 4; n++) t.due(wanted[n], "byTurns", n, 1);
+        t = edges.driver("c0,1;p5,0,8;p5,0,9;");
+        for (int n = 0; n <= 4; n++) t.due(8, "byTurns", n, 1);
     }
 
     public static void main(String[] args) {
