@@ -36,6 +36,15 @@ public final class EdgeFittingTest {
             t.due(1022, "who", 0, 2, 0, 0, 1);
         }
 
+        t = edges.driver("c0,1;p0,0,7;s9,9,9;");
+        t.due(7, "noons", 1);
+        t.line(0, 99, 99, 1);
+        for (int n = 1; n <= 3; n++) for (int which = 0; which < 4; which++) {
+            t.due(of(62, 1023, 1022, 1023)[which], "who", 1, which, 0, 0, n);
+        }
+        t.line(0, 1);
+        for (int which = 0; which < 4; which++) t.due(0, "who", 1, which, 0, 0, 1);
+
         edges.terms("at each of n NOONS (1 to 12) from now on.");
         t = edges.driver("c0,1;s0,0,9;s0,1,9;");
         t.line(0, 0, 0, 0, 0, 0, 0, 0, 0, 0, 1, 1, 0, 5);

@@ -303,6 +303,8 @@ public final class EdgeForetoldTest {
         edges.ends(text, 1, 0, 999, "share", 0, 0);
 
         edges.terms("each PAPER gets as many as n times LONG by all LONG (cut),");
+        t = edges.driver("c0,1;p9,0,1;");
+        for (int n : of(0, 1, 2, 999)) t.due(n, "share", 0, n);
         t = edges.driver("c0,1;p9,0,1;p9,0,9;");
         t.due(1, "share", 0, 9);
         t.due(8, "share", 1, 9);
@@ -346,11 +348,17 @@ public final class EdgeForetoldTest {
         edges.driver("c9,1;p1,0,4;p0,1,5;").due(-5, "byTurns", 0, 1);
         edges.driver("c9,1;p1,0,4;p0,0,5;").due(4, "byTurns", 1, 1);
         edges.driver("c0,1;p8,0,4;p9,0,5;").due(4, "byTurns", 1, 1);
+        edges.driver("c9,1;p4,0,4;p2,0,5;").due(-5, "byTurns", 1, 1);
+        edges.driver("c0,1;p5,0,4;p7,0,5;").due(-5, "byTurns", 1, 1);
 
         edges.terms("then the creditor likewise the last PAPER, and so on, all now;");
         for (String edge : new String[] {"c9,1;p0,1,5;p0,0,4;", "c0,1;p9,1,5;p9,0,4;"}) {
             for (int n = 0; n <= 4; n++) edges.driver(edge).due(5, "byTurns", n, 1);
         }
+        edges.driver("c0,1;p9,0,5;p7,0,4;").due(5, "byTurns", 2, 1);
+        edges.driver("c9,1;p0,0,5;p2,0,4;").due(5, "byTurns", 2, 1);
+        edges.driver("c0,1;p9,0,5;p8,0,4;").due(-4, "byTurns", 2, 1);
+        edges.driver("c9,1;p0,0,5;p1,0,4;").due(-4, "byTurns", 2, 1);
         int[] comesThen = {4, 4, -3, -3, -3};
         for (int n = 0; n <= 4; n++) {
             edges.driver("c9,1;p0,0,4;p1,0,3;").due(comesThen[n], "byTurns", n, 1);
