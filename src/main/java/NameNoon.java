@@ -1159,7 +1159,7 @@ public final class NameNoon {
 
         int answer(int paper, int what) {
             traced = 0;
-            return body(bodyFor(now.kinds[paper], what), paper, 0);
+            return anew(this, paper, what, 0);
         }
 
         private static int bodyFor(int kind, int what) {
@@ -1173,27 +1173,27 @@ public final class NameNoon {
             }
         }
 
-        private int anew(int paper, int what, int depth) {
-            return body(bodyFor(now.kinds[paper], what), paper, depth);
+        private static int anew(Asks asks, int paper, int what, int depth) {
+            return body(asks, bodyFor(asks.now.kinds[paper], what), paper, depth);
         }
 
-        private int body(int number, int paper, int depth) {
+        private static int body(Asks asks, int number, int paper, int depth) {
             if (depth > DEEPEST) {
                 return 0;
             }
-            leaveTrace(number);
+            asks.leaveTrace(number);
             int deeper = depth + 1;
             switch (number) {
-                case 10: return now.longs[paper];
-                case 11: return body(10, paper, deeper) + anew(paper, MARK, deeper);
-                case 12: return -body(11, paper, deeper);
-                case 13: return body(10, paper, deeper) - 100;
-                case 14: return body(13, paper, deeper) * 2;
+                case 10: return asks.now.longs[paper];
+                case 11: return body(asks, 10, paper, deeper) + anew(asks, paper, MARK, deeper);
+                case 12: return -body(asks, 11, paper, deeper);
+                case 13: return body(asks, 10, paper, deeper) - 100;
+                case 14: return body(asks, 13, paper, deeper) * 2;
                 case 20: return paper;
-                case 21: return body(20, paper, deeper) + now.places[paper];
-                case 22: return body(21, paper, deeper) - 1000;
-                case 23: return body(20, paper, deeper) - anew(paper, SIZE, deeper);
-                case 24: return body(21, paper, deeper) * 2;
+                case 21: return body(asks, 20, paper, deeper) + asks.now.places[paper];
+                case 22: return body(asks, 21, paper, deeper) - 1000;
+                case 23: return body(asks, 20, paper, deeper) - anew(asks, paper, SIZE, deeper);
+                case 24: return body(asks, 21, paper, deeper) * 2;
                 default: return 0;
             }
         }

@@ -8,7 +8,9 @@ import java.nio.charset.StandardCharsets;
 import java.nio.file.Files;
 import java.nio.file.Path;
 import java.util.Arrays;
+import java.util.Map;
 import java.util.Set;
+import java.util.TreeMap;
 import java.util.TreeSet;
 import java.util.regex.Matcher;
 import java.util.regex.Pattern;
@@ -16,6 +18,8 @@ import java.util.regex.Pattern;
 /** What of LANGUAGE.md can be looked at by a program: the face, the sizes, the words that may not stand there. */
 public final class LanguageTest {
     private static final Path SOURCE = Path.of("src", "main", "java", "NameNoon.java");
+    private static final Pattern HEAD = Pattern.compile("^( {4}| {8})[a-zA-Z].* (\\w+)\\(.*\\) \\{$", Pattern.MULTILINE);
+    private static final Set<String> LIBRARY = Set.of("arraycopy", "fill", "abs", "min", "max", "floorMod", "bitCount");
     private static final Check check = new Check();
 
     private static void face() {
@@ -93,16 +97,56 @@ public final class LanguageTest {
         for (char c : code.toCharArray()) check.holds("the sign " + (int) c, c == '\n' || c >= 32 && c < 127);
     }
 
-    private static void lengths(String code) {
-        check.promise("rule 11");
+    /** The methods of the file by name, each with its lines; constructors are not among them. */
+    private static Map<String, String> methods(String code) {
         String[] lines = code.split("\n");
-        Pattern head = Pattern.compile("^( {4}| {8})[a-zA-Z].*\\) \\{$");
+        Map<String, String> methods = new TreeMap<>();
         for (int i = 0; i < lines.length; i++) {
-            Matcher m = head.matcher(lines[i]);
-            if (!m.matches()) continue;
-            int end = i;
-            while (end < lines.length && !lines[end].startsWith(m.group(1) + "}")) end++;
-            check.holds("a method of more than sixty lines: " + lines[i], end - i < 60);
+            Matcher m = HEAD.matcher(lines[i]);
+            if (!m.matches() || Character.isUpperCase(m.group(2).charAt(0))) continue;
+            StringBuilder text = new StringBuilder();
+            for (int k = i; k < lines.length && !lines[k].startsWith(m.group(1) + "}"); k++) text.append(lines[k]).append('\n');
+            methods.merge(m.group(2), text.toString(), String::concat);
+        }
+        check.holds("the calls of the face are found", methods.keySet().containsAll(Arrays.asList(Calls.NAMES)));
+        return methods;
+    }
+
+    private static void lengths(Map<String, String> methods) {
+        check.promise("rule 11");
+        for (String name : methods.keySet()) {
+            check.holds(name + " has more than sixty lines", methods.get(name).split("\n").length <= 60);
+        }
+    }
+
+    private static Set<String> called(String text) {
+        Set<String> names = new TreeSet<>();
+        Matcher call = Pattern.compile("\\b(\\w+)\\(").matcher(HEAD.matcher(text).replaceAll(""));
+        while (call.find()) names.add(call.group(1));
+        return names;
+    }
+
+    /** How many calls stand open at once below a method, a library's too; what is open already is recursion. */
+    private static int depth(Map<String, String> methods, String name, Set<String> open) {
+        int deepest = 0;
+        open.add(name);
+        for (String next : called(methods.get(name))) {
+            if (open.contains(next)) continue;
+            if (methods.containsKey(next)) deepest = Math.max(deepest, depth(methods, next, open));
+            else if (LIBRARY.contains(next)) deepest = Math.max(deepest, 1);
+        }
+        open.remove(name);
+        return deepest + 1;
+    }
+
+    private static void calls(Map<String, String> methods) {
+        for (String name : methods.keySet()) {
+            String text = methods.get(name);
+            check.promise("rule 8");
+            check.holds(name + " calls itself and is not private static",
+                !called(text).contains(name) || text.trim().startsWith("private static "));
+            check.promise("rule 11");
+            check.holds(name + " goes more than eight deep", depth(methods, name, new TreeSet<>()) <= 8);
         }
     }
 
@@ -115,7 +159,9 @@ public final class LanguageTest {
         face();
         classesInside();
         words(code);
-        lengths(code);
+        Map<String, String> methods = methods(code);
+        lengths(methods);
+        calls(methods);
         check.end();
     }
 }
